@@ -1,0 +1,70 @@
+/** Promise 10: line. */
+public final class Promise10LineTest {
+    public static void main(String[] args) {
+        Due due = new Due();
+        fileLine(due);
+        terminalLine(due);
+        bothLines(due);
+        due.end();
+    }
+
+    private static void fileLine(Due due) {
+        RebornDrivers x = new RebornDrivers(20);
+        x.write(3, 1, 1);
+        x.read(1, 1);
+        x.sync(0);
+        x.write(2, 2, 2);
+        due.is("four", x.line(0), 4);
+        due.refused("read(3, 1)", x.read(3, 1));
+        due.is("refused", x.line(0), 4);
+        due.is("the other line", x.line(1), 0);
+        for (int s : new int[] {-1, 2, 3, Integer.MIN_VALUE, Integer.MAX_VALUE}) {
+            due.is("line(" + s + ")", x.line(s), -1);
+        }
+        due.ticks("the write", x, 1);
+        due.is("three", x.line(0), 3);
+        due.ticks("the read", x, 1);
+        due.is("two", x.line(0), 2);
+        x.read(3, 2);
+        due.is("three", x.line(0), 3);
+        due.ticks("the sync goes on", x, 0, 0, 0);
+        due.is("it stands in the line until done", x.line(0), 3);
+        due.ticks("the rest", x, 1, 1, 1);
+        due.is("result(3), last in the line", x.result(3), 2);
+        due.is("none", x.line(0), 0);
+    }
+
+    private static void terminalLine(Due due) {
+        RebornDrivers x = new RebornDrivers(20);
+        for (int u = 3; u >= 0; u--) {
+            x.print(u, 65 + u);
+        }
+        due.is("four", x.line(1), 4);
+        due.is("the other line", x.line(0), 0);
+        due.ticks("the first", x, 0, 0, 0);
+        due.is("it stands in the line until done", x.line(1), 4);
+        due.ticks("the first is done", x, 1);
+        due.is("three", x.line(1), 3);
+        x.fault(1, 0);
+        due.ticks("the second has failed", x, 1);
+        due.is("two", x.line(1), 2);
+        due.ticks("the rest", x, 0, 0, 1, 0, 0, 1);
+        due.is("none", x.line(1), 0);
+        due.is("in the order of the line", x.output(0), 68);
+        due.is("in the order of the line", x.output(1), 66);
+        due.is("in the order of the line", x.output(2), 65);
+    }
+
+    private static void bothLines(Due due) {
+        RebornDrivers x = new RebornDrivers(20);
+        x.print(0, 65);
+        x.sync(1);
+        x.print(2, 66);
+        x.sync(3);
+        due.is("line(0)", x.line(0), 2);
+        due.is("line(1)", x.line(1), 2);
+        due.ticks("both", x, 1, 1, 0, 1, 0, 0, 1);
+        due.is("line(0)", x.line(0), 0);
+        due.is("line(1)", x.line(1), 0);
+    }
+}
