@@ -1,8 +1,5 @@
 /** Compares answers with those that are due, prints each that differs, and ends with exit code 1 if there was one. */
 final class Due {
-    static final int[] NO_SUCH_USERS = {-1, 4, 5, Integer.MIN_VALUE, Integer.MAX_VALUE};
-    static final int[] NO_SUCH_BLOCKS = {-1, 16, 17, Integer.MIN_VALUE, Integer.MAX_VALUE};
-
     private int compared;
     private int wrong;
 
@@ -41,6 +38,11 @@ final class Due {
         for (int k = 0; k < wants.length; k++) {
             is(when + ": driver(" + d + ", " + k + ")", x.driver(d, k), wants[k]);
         }
+    }
+
+    /** All that can be looked at of x is as that of y. */
+    void same(String when, RebornDrivers x, RebornDrivers y) {
+        Looks.ALL.forEach((look, asked) -> is(when + ": " + look, asked.applyAsInt(x), asked.applyAsInt(y)));
     }
 
     void end() {

@@ -3,11 +3,9 @@ public final class Promise01NewObjectTest {
     public static void main(String[] args) {
         Due due = new Due();
         nothingBegun(due);
-        for (int h = 2; h <= 20; h++) {
-            period(due, h, h);
-        }
-        for (int h : new int[] {1, 0, -1, -5, 21, 22, Integer.MIN_VALUE, Integer.MAX_VALUE}) {
-            period(due, h, 5);
+        for (int d = 0; d < 2; d++) {
+            periodIs2To20(due, d);
+            otherwise5(due, d);
         }
         objectsAreApart(due);
         due.end();
@@ -35,22 +33,40 @@ public final class Promise01NewObjectTest {
         due.ticks("nothing begun", x, 0, 0, 0, 0, 0, 0);
     }
 
+    /** "H is h if it is 2 .. 20" */
+    private static void periodIs2To20(Due due, int d) {
+        for (int h = 2; h <= 20; h++) {
+            period(due, h, h, d);
+        }
+    }
+
+    /** "otherwise 5" */
+    private static void otherwise5(Due due, int d) {
+        for (int h : Edges.outside(2, 20)) {
+            period(due, h, 5, d);
+        }
+        for (int h : new int[] {1, 0, -1, -5, 21, 25, 40}) {
+            period(due, h, 5, d);
+        }
+    }
+
     /** A driver that hangs from the start is pinged at H and, having not answered, restarted at 2 H. */
-    private static void period(Due due, int h, int period) {
+    private static void period(Due due, int h, int period, int d) {
         RebornDrivers x = new RebornDrivers(h);
-        x.fault(0, 1);
+        due.is("h " + h + ": now()", x.now(), 0);
+        x.fault(d, 1);
         for (int i = 1; i < period; i++) {
             x.tick();
-            due.is("h " + h + " at " + i + ": driver(0, 4)", x.driver(0, 4), 1);
+            due.is("h " + h + " at " + i + ": has answered", x.driver(d, 4), 1);
         }
         x.tick();
-        due.is("h " + h + " at H: driver(0, 4)", x.driver(0, 4), 0);
+        due.is("h " + h + " at H: has answered", x.driver(d, 4), 0);
         for (int i = 1; i < period; i++) {
             x.tick();
-            due.is("h " + h + " at H + " + i + ": driver(0, 0)", x.driver(0, 0), 0);
+            due.is("h " + h + " at H + " + i + ": endpoint", x.driver(d, 0), 0);
         }
         x.tick();
-        due.driver("h " + h + " at 2 H", x, 0, 1, 0, -1, 0, 1);
+        due.driver("h " + h + " at 2 H", x, d, 1, 0, -1, 0, 1);
     }
 
     private static void objectsAreApart(Due due) {

@@ -6,8 +6,12 @@ public final class Promise02ReadTest {
         replacesTheSlotUsedLongestAgo(due);
         writesADirtySlotFirst(due);
         survivesARestart(due);
-        edges(due);
-        wrongInputs(due);
+        Beginning.isForUsersAlone(due, "read of block 0", (x, u) -> x.read(u, 0));
+        Beginning.isForUsersAlone(due, "read of block 15", (x, u) -> x.read(u, 15));
+        Beginning.isForBlocksAlone(due, "read", (x, u, b) -> x.read(u, b));
+        Beginning.waitsForTheEnd(due, "read of block 4", (x, u) -> x.read(u, 4));
+        eachBlockHasItsOwnValue(due);
+        anIntOfAnySizeIsRead(due);
         due.end();
     }
 
@@ -99,34 +103,38 @@ public final class Promise02ReadTest {
         }
     }
 
-    private static void edges(Due due) {
+    private static void eachBlockHasItsOwnValue(Due due) {
         RebornDrivers x = new RebornDrivers(20);
-        due.taken("read(0, 0)", x.read(0, 0));
-        due.taken("read(3, 15)", x.read(3, 15));
-        due.is("line(0)", x.line(0), 2);
-        due.ticks("one after the other", x, 0, 0, 0, 1, 0, 0, 0, 1);
-        due.slot("first", x, 0, 0, 0, 0);
-        due.slot("second", x, 1, 15, 0, 0);
+        for (int b = 0; b < 16; b++) {
+            x.write(0, b, 1000 + b);
+            x.sync(1);
+            due.ticks("written", x, 1, 0, 0, 0, 1);
+        }
+        for (int b = 0; b < 16; b++) {
+            x.read(2, b);
+            due.ticks("block " + b + " is read from the disk", x, 0, 0, 0, 1);
+            due.is("block " + b + ": result(2)", x.result(2), 1000 + b);
+        }
     }
 
-    private static void wrongInputs(Due due) {
-        RebornDrivers x = new RebornDrivers(20);
-        for (int u : Due.NO_SUCH_USERS) {
-            due.refused("read(" + u + ", 0)", x.read(u, 0));
+    /** "BLOCKS 0 .. 15 are ints": each comes back from the cache and from the device as it was. */
+    private static void anIntOfAnySizeIsRead(Due due) {
+        for (int v : Edges.VALUES) {
+            RebornDrivers x = new RebornDrivers(20);
+            x.write(0, 15, v);
+            x.read(1, 15);
+            due.ticks("from the cache", x, 1, 1);
+            due.is("from the cache: result(1)", x.result(1), v);
+            x.sync(0);
+            due.ticks("to the device", x, 0, 0, 0, 1);
+            for (int b = 0; b < 3; b++) {
+                x.write(0, b, 7);
+                due.ticks("the slots are taken", x, 1);
+            }
+            x.read(1, 15);
+            due.ticks("slot 1 is written, block 15 is read", x, 0, 0, 0, 0, 0, 0, 1);
+            due.is("from the device: result(1)", x.result(1), v);
+            due.slot("from the device", x, 1, 15, v, 0);
         }
-        for (int b : Due.NO_SUCH_BLOCKS) {
-            due.refused("read(0, " + b + ")", x.read(0, b));
-        }
-        due.is("nothing begun: state(0)", x.state(0), 0);
-        due.is("nothing begun: line(0)", x.line(0), 0);
-        x.read(0, 3);
-        x.print(1, 65);
-        due.refused("read while reading", x.read(0, 4));
-        due.refused("read while printing", x.read(1, 4));
-        due.is("line(0)", x.line(0), 1);
-        due.ticks("the first read", x, 0, 0, 0, 2);
-        due.slot("block 3, not 4", x, 0, 3, 0, 0);
-        due.taken("read after a read", x.read(0, 4));
-        due.taken("read after a print", x.read(1, 4));
     }
 }

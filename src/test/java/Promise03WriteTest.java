@@ -8,7 +8,11 @@ public final class Promise03WriteTest {
         writesADirtySlotFirst(due);
         usesTheSlot(due);
         takesACleanSlotAtOnce(due);
-        wrongInputs(due);
+        Beginning.isForUsersAlone(due, "write to block 0", (x, u) -> x.write(u, 0, 1));
+        Beginning.isForUsersAlone(due, "write to block 15", (x, u) -> x.write(u, 15, -1));
+        Beginning.isForBlocksAlone(due, "write of 8", (x, u, b) -> x.write(u, b, 8));
+        Beginning.waitsForTheEnd(due, "write to block 4", (x, u) -> x.write(u, 4, 40));
+        anIntOfAnySizeIsWritten(due);
         due.end();
     }
 
@@ -97,23 +101,22 @@ public final class Promise03WriteTest {
         due.slot("slot 0", x, 0, 7, 70, 1);
     }
 
-    private static void wrongInputs(Due due) {
-        RebornDrivers x = new RebornDrivers(20);
-        for (int u : Due.NO_SUCH_USERS) {
-            due.refused("write(" + u + ", 0, 1)", x.write(u, 0, 1));
+    /** "BLOCKS 0 .. 15 are ints": no value is refused, and each stands in the slot and on the device as it is. */
+    private static void anIntOfAnySizeIsWritten(Due due) {
+        for (int v : Edges.VALUES) {
+            RebornDrivers x = new RebornDrivers(20);
+            due.taken("write(0, 0, " + v + ")", x.write(0, 0, v));
+            due.ticks("write(0, 0, " + v + ")", x, 1);
+            due.is("result(0)", x.result(0), 0);
+            due.slot("write(0, 0, " + v + ")", x, 0, 0, v, 1);
+            due.taken("the same once more", x.write(0, 0, v));
+            x.sync(1);
+            due.ticks("written", x, 1, 0, 0, 0, 1);
+            due.slot("written", x, 0, 0, v, 0);
+            due.is("device(0)", x.device(0), v);
+            x.write(0, 0, v);
+            due.ticks("a value that it has already makes a slot dirty too", x, 1);
+            due.slot("the same value", x, 0, 0, v, 1);
         }
-        for (int b : Due.NO_SUCH_BLOCKS) {
-            due.refused("write(0, " + b + ", 1)", x.write(0, b, 1));
-        }
-        due.is("nothing begun: state(0)", x.state(0), 0);
-        due.is("nothing begun: line(0)", x.line(0), 0);
-        x.write(0, 3, 30);
-        x.print(1, 65);
-        due.refused("write while writing", x.write(0, 4, 40));
-        due.refused("write while printing", x.write(1, 4, 40));
-        due.ticks("the first write", x, 1, 0, 0, 1);
-        due.slot("block 3, not 4", x, 0, 3, 30, 1);
-        due.slot("no other", x, 1, -1, 0, 0);
-        due.taken("write after a write", x.write(0, 4, 40));
     }
 }

@@ -6,7 +6,8 @@ public final class Promise04SyncTest {
         lowestBlockFirst(due);
         cleanSlotsAreLeft(due);
         standsInTheLine(due);
-        wrongInputs(due);
+        Beginning.isForUsersAlone(due, "sync", RebornDrivers::sync);
+        Beginning.waitsForTheEnd(due, "sync", RebornDrivers::sync);
         due.end();
     }
 
@@ -82,20 +83,5 @@ public final class Promise04SyncTest {
         due.slot("slot 0 was the oldest", x, 0, 4, 40, 1);
         due.slot("slot 1 stays", x, 1, 2, 20, 0);
         due.slot("slot 2 is dirty again", x, 2, 3, 31, 1);
-    }
-
-    private static void wrongInputs(Due due) {
-        RebornDrivers x = new RebornDrivers(20);
-        for (int u : Due.NO_SUCH_USERS) {
-            due.refused("sync(" + u + ")", x.sync(u));
-        }
-        due.is("nothing begun: line(0)", x.line(0), 0);
-        x.read(0, 1);
-        x.print(1, 65);
-        due.refused("sync while reading", x.sync(0));
-        due.refused("sync while printing", x.sync(1));
-        due.taken("sync(2)", x.sync(2));
-        due.refused("sync while syncing", x.sync(2));
-        due.is("line(0)", x.line(0), 2);
     }
 }

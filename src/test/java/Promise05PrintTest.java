@@ -5,7 +5,10 @@ public final class Promise05PrintTest {
         oneAfterTheOther(due);
         failsWhenTheConsoleIsRestarted(due);
         waitsForADeadConsole(due);
-        wrongInputs(due);
+        Beginning.isForUsersAlone(due, "print of 32", (x, u) -> x.print(u, 32));
+        Beginning.isForUsersAlone(due, "print of 126", (x, u) -> x.print(u, 126));
+        charactersAre32To126(due);
+        Beginning.waitsForTheEnd(due, "print of 66", (x, u) -> x.print(u, 66));
         due.end();
     }
 
@@ -67,23 +70,23 @@ public final class Promise05PrintTest {
         due.is("output(0)", x.output(0), 70);
     }
 
-    private static void wrongInputs(Due due) {
-        RebornDrivers x = new RebornDrivers(20);
-        for (int u : Due.NO_SUCH_USERS) {
-            due.refused("print(" + u + ", 65)", x.print(u, 65));
+    /** "c is not 32 .. 126" */
+    private static void charactersAre32To126(Due due) {
+        for (int c = 32; c <= 126; c++) {
+            RebornDrivers x = new RebornDrivers(20);
+            due.taken("print(3, " + c + ")", x.print(3, c));
+            due.ticks("print(3, " + c + ")", x, 0, 0, 0, 1);
+            due.is("print(3, " + c + "): output(0)", x.output(0), c);
         }
-        for (int c : new int[] {31, 127, 0, -1, 10, 128, 32 + 256, Integer.MIN_VALUE, Integer.MAX_VALUE}) {
-            due.refused("print(0, " + c + ")", x.print(0, c));
+        for (int c : Edges.NO_CHARACTERS) {
+            Refusal.inEachSituation(due, "print(0, " + c + ")", x -> x.print(0, c));
+            Refusal.inEachSituation(due, "print(3, " + c + ")", x -> x.print(3, c));
         }
-        due.is("nothing begun: state(0)", x.state(0), 0);
-        due.is("nothing begun: line(1)", x.line(1), 0);
-        x.print(0, 65);
-        x.sync(1);
-        due.refused("print while printing", x.print(0, 66));
-        due.refused("print while syncing", x.print(1, 66));
-        due.is("line(1)", x.line(1), 1);
-        due.ticks("the print", x, 1, 0, 0, 1);
-        due.is("output(0)", x.output(0), 65);
-        due.is("output(-1)", x.output(-1), 1);
+        for (int c : new int[] {0, 10, 13, 27}) {
+            Refusal.check(due, "print(0, " + c + ")", Situation::allHaveEnded, x -> x.print(0, c));
+        }
+        for (int u : Edges.NO_USERS) {
+            Refusal.check(due, "print(" + u + ", 31)", Situation::allHaveEnded, x -> x.print(u, 31));
+        }
     }
 }

@@ -28,10 +28,19 @@ public final class Promise08StateTest {
         states(due, "refused calls change nothing", x, 1, 2, 2, 1);
         due.ticks("both", x, 1, 0, 0, 1);
         states(due, "all done", x, 2, 2, 2, 2);
-        for (int u : Due.NO_SUCH_USERS) {
-            due.is("state(" + u + ")", x.state(u), -1);
-        }
+        usersAre0To3(due);
         due.end();
+    }
+
+    /** "-1 if there is no user u" */
+    private static void usersAre0To3(Due due) {
+        states(due, "all have ended", Situation.allHaveEnded(), 2, 3, 2, 2);
+        for (Situation situation : Situation.values()) {
+            RebornDrivers x = situation.make();
+            for (int u : Edges.NO_USERS) {
+                due.is(situation + ": state(" + u + ")", x.state(u), -1);
+            }
+        }
     }
 
     private static void states(Due due, String when, RebornDrivers x, int... wants) {

@@ -6,6 +6,10 @@ public final class Promise09ResultTest {
         ofWritesAndPrints(due);
         ofSyncs(due);
         ofFailures(due);
+        ofSyncsOfUpToThreeSlots(due);
+        ofReadsThatLookLikeOtherAnswers(due);
+        ofOperationsThatArePending(due);
+        ofNoUser(due);
         due.end();
     }
 
@@ -26,9 +30,6 @@ public final class Promise09ResultTest {
         due.is("the next read is pending", x.result(1), 0);
         due.ticks("a miss", x, 0, 0, 0, 1);
         due.is("of a block that is 0", x.result(1), 0);
-        for (int u : Due.NO_SUCH_USERS) {
-            due.is("result(" + u + ")", x.result(u), 0);
-        }
     }
 
     private static void ofWritesAndPrints(Due due) {
@@ -102,5 +103,74 @@ public final class Promise09ResultTest {
         due.is("the next is pending", x.result(2), 0);
         due.ticks("done", x, 0, 0, 0, 1);
         due.is("done", x.result(2), 0);
+    }
+
+    /** "of a sync that is done how many requests to write it made": 0 to 3 slots can be dirty. */
+    private static void ofSyncsOfUpToThreeSlots(Due due) {
+        for (int slots = 0; slots <= 3; slots++) {
+            RebornDrivers x = new RebornDrivers(20);
+            for (int b = 0; b < slots; b++) {
+                x.write(b, b, 5);
+            }
+            x.sync(3);
+            Situation.ticked(x, slots + 3 * slots);
+            due.is(slots + " slots, pending: result(3)", x.result(3), 0);
+            due.ticks(slots + " slots", x, 1);
+            due.is(slots + " slots: result(3)", x.result(3), slots);
+        }
+    }
+
+    /** "of a read that is done the value", also if it is 0 or the -5 that tells of a failure */
+    private static void ofReadsThatLookLikeOtherAnswers(Due due) {
+        for (int v : Edges.VALUES) {
+            RebornDrivers x = new RebornDrivers(20);
+            x.write(0, 2, v);
+            x.read(1, 2);
+            due.ticks("a read of " + v, x, 1, 1);
+            due.is("a read of " + v + ": state(1)", x.state(1), 2);
+            due.is("a read of " + v + ": result(1)", x.result(1), v);
+        }
+    }
+
+    /** "0 of all others": what the operation before it came to is not told any more. */
+    private static void ofOperationsThatArePending(Due due) {
+        for (int kind = 0; kind < 4; kind++) {
+            RebornDrivers x = Situation.allHaveEnded();
+            int[] before = {70, -5, 3, 0};
+            for (int u = 0; u < 4; u++) {
+                due.is("ended: result(" + u + ")", x.result(u), before[u]);
+                begin(x, u, kind);
+                due.is("kind " + kind + " is pending: result(" + u + ")", x.result(u), 0);
+            }
+        }
+    }
+
+    private static void begin(RebornDrivers x, int u, int kind) {
+        switch (kind) {
+            case 0 -> x.read(u, 1);
+            case 1 -> x.write(u, 1, 6);
+            case 2 -> x.sync(u);
+            default -> x.print(u, 66);
+        }
+    }
+
+    /** "0 ... if none was begun, or there is no user u" */
+    private static void ofNoUser(Due due) {
+        RebornDrivers x = new RebornDrivers(20);
+        for (int u = 0; u < 4; u++) {
+            due.is("none was begun: result(" + u + ")", x.result(u), 0);
+        }
+        x.write(0, 1, 7);
+        due.ticks("a write", x, 1);
+        for (int u = 0; u < 4; u++) {
+            x.read(u, 1);
+        }
+        due.ticks("reads", x, 1, 1, 1, 1);
+        for (int u = 0; u < 4; u++) {
+            due.is("result(" + u + ")", x.result(u), 7);
+        }
+        for (int u : Edges.NO_USERS) {
+            due.is("result(" + u + ")", x.result(u), 0);
+        }
     }
 }

@@ -5,6 +5,8 @@ public final class Promise10LineTest {
         fileLine(due);
         terminalLine(due);
         bothLines(due);
+        emptyToFull(due);
+        linesAre0And1(due);
         due.end();
     }
 
@@ -18,9 +20,6 @@ public final class Promise10LineTest {
         due.refused("read(3, 1)", x.read(3, 1));
         due.is("refused", x.line(0), 4);
         due.is("the other line", x.line(1), 0);
-        for (int s : new int[] {-1, 2, 3, Integer.MIN_VALUE, Integer.MAX_VALUE}) {
-            due.is("line(" + s + ")", x.line(s), -1);
-        }
         due.ticks("the write", x, 1);
         due.is("three", x.line(0), 3);
         due.ticks("the read", x, 1);
@@ -66,5 +65,37 @@ public final class Promise10LineTest {
         due.ticks("both", x, 1, 1, 0, 1, 0, 0, 1);
         due.is("line(0)", x.line(0), 0);
         due.is("line(1)", x.line(1), 0);
+    }
+
+    /** A line has from none to all four users' operations. */
+    private static void emptyToFull(Due due) {
+        RebornDrivers x = new RebornDrivers(20);
+        RebornDrivers y = new RebornDrivers(20);
+        for (int u = 0; u < 4; u++) {
+            due.is("before user " + u + ": line(0)", x.line(0), u);
+            due.is("before user " + u + ": line(1)", y.line(1), u);
+            x.sync(u);
+            y.print(u, 65);
+        }
+        for (int u = 0; u < 4; u++) {
+            due.is("full: line(0)", x.line(0), 4 - u);
+            due.is("full: line(1)", y.line(1), 4 - u);
+            x.tick();
+            Situation.ticked(y, u == 0 ? 4 : 3);
+        }
+        due.is("empty: line(0)", x.line(0), 0);
+        due.is("empty: line(1)", y.line(1), 0);
+        due.ticks("empty", x, 0, 0);
+        due.ticks("empty", y, 0, 0);
+    }
+
+    /** "-1 for another s" */
+    private static void linesAre0And1(Due due) {
+        for (Situation situation : Situation.values()) {
+            RebornDrivers x = situation.make();
+            for (int s : Edges.NO_SERVERS) {
+                due.is(situation + ": line(" + s + ")", x.line(s), -1);
+            }
+        }
     }
 }

@@ -13,12 +13,17 @@ public final class Promise11DeviceTest {
         for (int b = 0; b < 16; b++) {
             due.is("device(" + b + ")", x.device(b), 1000 + b);
         }
-        for (int b : Due.NO_SUCH_BLOCKS) {
-            due.is("device(" + b + ")", x.device(b), 0);
-        }
+        noBlock(due, x);
         changesAtStageTwo(due);
         readsWhatStandsThere(due);
         due.end();
+    }
+
+    /** "0 if there is none", of an object whose blocks are all another thing than 0 */
+    private static void noBlock(Due due, RebornDrivers x) {
+        for (int b : Edges.NO_BLOCKS) {
+            due.is("device(" + b + ")", x.device(b), 0);
+        }
     }
 
     private static void changesAtStageTwo(Due due) {

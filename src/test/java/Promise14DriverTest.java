@@ -1,13 +1,13 @@
 /** Promise 14: driver. */
 public final class Promise14DriverTest {
-    private static final int[] OTHERS = {-1, 5, 6, Integer.MIN_VALUE, Integer.MAX_VALUE};
-
     public static void main(String[] args) {
         Due due = new Due();
         stages(due);
         endpointsAndRefusals(due);
         eachDriverHasItsOwn(due);
-        wrongInputs(due);
+        noRequestHasNoStage(due);
+        driversAre0And1(due);
+        kindsAre0To4(due);
         due.end();
     }
 
@@ -48,16 +48,41 @@ public final class Promise14DriverTest {
         due.driver("as before", x, 1, 0, 0, -1, 1, 1);
     }
 
-    private static void wrongInputs(Due due) {
-        RebornDrivers x = new RebornDrivers(20);
-        for (int d : new int[] {-1, 2, 3, Integer.MIN_VALUE, Integer.MAX_VALUE}) {
-            for (int k = 0; k <= 4; k++) {
-                due.is("driver(" + d + ", " + k + ")", x.driver(d, k), -2);
+    /** "the stage of its request, -1 if it has none": before one is given, when it is answered, when it is lost. */
+    private static void noRequestHasNoStage(Due due) {
+        for (Work work : Work.values()) {
+            int d = work.driver;
+            due.is(work + ", not given yet", work.at(-1, 20).driver(d, 2), -1);
+            due.is(work + ", given", work.at(0, 20).driver(d, 2), 0);
+            due.is(work + ", answered", work.at(3, 20).driver(d, 2), -1);
+            RebornDrivers x = work.at(2, 20);
+            due.is(work + ", not answered yet", x.driver(d, 2), 2);
+            x.fault(d, 0);
+            due.is(work + ", lost", x.driver(d, 2), -1);
+        }
+    }
+
+    /** "-2 if there is no driver d" */
+    private static void driversAre0And1(Due due) {
+        for (Situation situation : Situation.values()) {
+            RebornDrivers x = situation.make();
+            for (int d : Edges.NO_DRIVERS) {
+                for (int k = 0; k <= 4; k++) {
+                    due.is(situation + ": driver(" + d + ", " + k + ")", x.driver(d, k), -2);
+                }
             }
         }
-        for (int k : OTHERS) {
-            due.is("driver(0, " + k + ")", x.driver(0, k), -2);
-            due.is("driver(1, " + k + ")", x.driver(1, k), -2);
+    }
+
+    /** "or k is not 0 .. 4" */
+    private static void kindsAre0To4(Due due) {
+        for (Situation situation : Situation.values()) {
+            RebornDrivers x = situation.make();
+            for (int k : Edges.outside(0, 4)) {
+                for (int d = -1; d <= 2; d++) {
+                    due.is(situation + ": driver(" + d + ", " + k + ")", x.driver(d, k), -2);
+                }
+            }
         }
     }
 }

@@ -7,11 +7,18 @@ public final class Promise15RequestTest {
             notGivenToADeadDriver(due, s);
         }
         noRequestForWhatIsInTheCache(due);
-        RebornDrivers x = new RebornDrivers(20);
-        for (int s : new int[] {-1, 2, 3, Integer.MIN_VALUE, Integer.MAX_VALUE}) {
-            due.is("request(" + s + ")", x.request(s), -1);
-        }
+        serversAre0And1(due);
         due.end();
+    }
+
+    /** "-1 for another s" */
+    private static void serversAre0And1(Due due) {
+        for (Situation situation : Situation.values()) {
+            RebornDrivers x = situation.make();
+            for (int s : Edges.NO_SERVERS) {
+                due.is(situation + ": request(" + s + ")", x.request(s), -1);
+            }
+        }
     }
 
     private static void begin(RebornDrivers x, int s) {
