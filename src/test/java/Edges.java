@@ -18,9 +18,10 @@ final class Edges {
 
     /** The ints next to the range, the ends of int, and such as fall into the range if upper bits are lost. */
     static int[] outside(int least, int greatest) {
-        return IntStream.of(least - 1, least - 2, greatest + 1, greatest + 2, -greatest, -greatest - 1, least + (1 << 8),
-                greatest + (1 << 8), least + (1 << 16), greatest + (1 << 16), least + (1 << 31), greatest + (1 << 31),
-                Integer.MIN_VALUE, Integer.MIN_VALUE + 1, Integer.MAX_VALUE - 1, Integer.MAX_VALUE)
+        return IntStream.of(least - 1, least - 2, greatest + 1, greatest + 2, -greatest, -greatest - 1,
+                least + (1 << 8), greatest + (1 << 8), least + (1 << 16), greatest + (1 << 16), least + (1 << 31),
+                greatest + (1 << 31), Integer.MIN_VALUE, Integer.MIN_VALUE + 1, Integer.MAX_VALUE - 1,
+                Integer.MAX_VALUE)
                 .filter(n -> n < least || n > greatest).distinct().toArray();
     }
 }

@@ -53,7 +53,7 @@ public final class Promise07FaultTest {
         }
     }
 
-    /** "0: it is dead, and its request is lost": the disk's is given once more, the print has failed. */
+    /** "0: it is dead, and its request is lost" */
     private static void killed(Due due, Work work, int stage) {
         String when = work + " at " + stage + ", killed";
         RebornDrivers x = work.at(stage, 20);
@@ -63,16 +63,8 @@ public final class Promise07FaultTest {
         due.driver(when, x, d, 0, 2, -1, 0, 1);
         due.driver(when + ": the other", x, 1 - d, 0, 0, -1, 0, 1);
         due.is(when + ": the server does not know it yet", x.request(d), stage == -1 ? 0 : 2);
-        boolean fails = work == Work.PRINTING && stage != -1;
-        due.ticks(when, x, fails ? 1 : 0);
-        due.driver(when + ", restarted", x, d, 1, 0, fails ? -1 : 0, 0, 1);
         work.isCarriedOut(due, when, x, stage == 2);
-        if (fails) {
-            due.is(when + ": state(0)", x.state(0), 3);
-            due.is(when + ": result(0)", x.result(0), -5);
-        } else {
-            goesOn(due, when, work, x, 0, stage == 2);
-        }
+        isRestarted(due, when, work, x, stage, 0);
     }
 
     /** "1: it is hung"; "One that is hung keeps its request, and does nothing, until it is restarted or dead." */
@@ -82,7 +74,7 @@ public final class Promise07FaultTest {
         RebornDrivers x = work.at(stage, 10);
         due.taken(when, x.fault(d, 1));
         due.driver(when, x, d, 0, 1, stage, 0, 1);
-        int kept = stage == -1 ? 0 : stage;
+        int kept = Math.max(stage, 0);
         while (x.now() % 10 != 9) {
             due.ticks(when, x, 0);
             due.driver(when + ", not pinged", x, d, 0, 1, kept, 0, 1);
@@ -92,12 +84,7 @@ public final class Promise07FaultTest {
             due.driver(when + ", pinged", x, d, 0, 1, kept, 0, 0);
         }
         work.isCarriedOut(due, when, x, stage == 2);
-        boolean fails = work == Work.PRINTING;
-        due.ticks(when + ", restarted", x, fails ? 1 : 0);
-        due.driver(when + ", restarted", x, d, 1, 0, fails ? -1 : 0, 0, 1);
-        if (!fails) {
-            goesOn(due, when + ", restarted", work, x, 0, stage == 2);
-        }
+        isRestarted(due, when, work, x, kept, 0);
     }
 
     /** "2: it is bad by a send ... until its next step" */
@@ -108,9 +95,10 @@ public final class Promise07FaultTest {
         due.taken(when, x.fault(d, 2));
         due.driver(when + ", nothing seen before its step", x, d, 0, 0, stage, 0, 1);
         due.ticks(when, x, 0);
-        due.driver(when + ", refused, and that is all", x, d, 0, 0, stage == -1 ? 0 : stage, 1, 1);
+        int kept = Math.max(stage, 0);
+        due.driver(when + ", refused, and that is all", x, d, 0, 0, kept, 1, 1);
         work.isCarriedOut(due, when, x, stage == 2);
-        goesOn(due, when, work, x, stage == -1 ? 0 : stage, stage == 2);
+        goesOn(due, when, work, x, kept, stage == 2);
         due.driver(when + ", not bad any more", x, d, 0, 0, -1, 1, 1);
     }
 
@@ -125,17 +113,26 @@ public final class Promise07FaultTest {
         due.driver(when + ", refused and dead", x, d, 0, 2, -1, 1, 1);
         work.isCarriedOut(due, when, x, stage == 2);
         due.is(when + ": request", x.request(d), stage == -1 ? 1 : 2);
-        boolean fails = work == Work.PRINTING && stage != -1;
-        due.ticks(when + ", restarted", x, fails ? 1 : 0);
-        due.driver(when + ", restarted, refusals stay", x, d, 1, 0, fails ? -1 : 0, 1, 1);
-        if (!fails) {
-            goesOn(due, when + ", restarted", work, x, 0, stage == 2);
-        }
+        isRestarted(due, when, work, x, stage, 1);
         due.ticks(when + ", not bad any more", x, 0);
         due.driver(when + ", not bad any more", x, d, 1, 0, -1, 1, 1);
     }
 
-    /** From the stage on the work is done without further trouble; the disk may have carried it out before. */
+    /** The next tick restarts the driver: a print that it had has failed, other work is given to it and done. */
+    private static void isRestarted(Due due, String when, Work work, RebornDrivers x, int stage, int refusals) {
+        boolean fails = work == Work.PRINTING && stage != -1;
+        due.ticks(when + ", restarted", x, fails ? 1 : 0);
+        due.driver(when + ", restarted", x, work.driver, 1, 0, fails ? -1 : 0, refusals, 1);
+        if (fails) {
+            work.isCarriedOut(due, when + ", restarted", x, stage == 2);
+            due.is(when + ", restarted: state(0)", x.state(0), 3);
+            due.is(when + ", restarted: result(0)", x.result(0), -5);
+        } else {
+            goesOn(due, when + ", restarted", work, x, 0, stage == 2);
+        }
+    }
+
+    /** From the stage on the work is done without trouble; a driver that died may have carried it out before. */
     private static void goesOn(Due due, String when, Work work, RebornDrivers x, int stage, boolean carriedOut) {
         for (int i = stage; i <= 2; i++) {
             due.is(when + ", going on: stage", x.driver(work.driver, 2), i);

@@ -1,3 +1,5 @@
+import java.util.stream.IntStream;
+
 /** Promise 10: line. */
 public final class Promise10LineTest {
     public static void main(String[] args) {
@@ -5,6 +7,7 @@ public final class Promise10LineTest {
         fileLine(due);
         terminalLine(due);
         bothLines(due);
+        inTheOrderInWhichTheyWereBegun(due);
         emptyToFull(due);
         linesAre0And1(due);
         due.end();
@@ -65,6 +68,35 @@ public final class Promise10LineTest {
         due.ticks("both", x, 1, 1, 0, 1, 0, 0, 1);
         due.is("line(0)", x.line(0), 0);
         due.is("line(1)", x.line(1), 0);
+    }
+
+    /** "in the order in which they were begun", whichever of the 24 orders of the users that is */
+    private static void inTheOrderInWhichTheyWereBegun(Due due) {
+        for (int i = 0; i < 256; i++) {
+            int[] users = {i & 3, i >> 2 & 3, i >> 4 & 3, i >> 6};
+            if (IntStream.of(users).distinct().count() == 4) {
+                isKept(due, users);
+            }
+        }
+    }
+
+    private static void isKept(Due due, int[] users) {
+        RebornDrivers x = new RebornDrivers(20);
+        RebornDrivers y = new RebornDrivers(20);
+        for (int u : users) {
+            x.write(u, 1, u);
+            y.print(u, 70 + u);
+        }
+        due.ticks("the first is given", y, 0);
+        for (int i = 0; i < 4; i++) {
+            String when = "place " + i + ", user " + users[i];
+            due.is(when + ", begun", x.state(users[i]) + y.state(users[i]), 2);
+            due.ticks(when, x, 1);
+            due.ticks(when, y, 0, 0, 1);
+            due.is(when + ", done", x.state(users[i]) + y.state(users[i]), 4);
+            due.is(when + ": slot(0, 1)", x.slot(0, 1), users[i]);
+            due.is(when + ": output(" + i + ")", y.output(i), 70 + users[i]);
+        }
     }
 
     /** A line has from none to all four users' operations. */

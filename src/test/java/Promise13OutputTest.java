@@ -84,8 +84,8 @@ public final class Promise13OutputTest {
     }
 
     /**
-     * "Of more than 200 the first 200 are kept, and are all it has." That many take more than 512 calls, behind which the
-     * document leaves all answers free; this program holds to the sentence there too.
+     * "Of more than 200 the first 200 are kept, and are all it has." That many take more than 512 calls, behind which
+     * the document leaves all answers free; this program holds to the sentence there too.
      */
     private static void moreThanAreKept(Due due) {
         RebornDrivers x = new RebornDrivers(20);

@@ -2,8 +2,8 @@ import java.util.function.Predicate;
 import java.util.function.Supplier;
 
 /**
- * "A refused call changes nothing": an object on which it was made answers as its twin, on which it was not made, at once
- * and over the ticks that follow.
+ * "A refused call changes nothing": an object on which it was made answers as its twin, on which it was not made, at
+ * once and over the ticks that follow.
  */
 final class Refusal {
     private static final int TICKS_AFTER = 14;

@@ -26,7 +26,7 @@ enum Situation {
         return made.get();
     }
 
-    /** User 0 has read 70, the print of user 1 has failed, user 2 had 3 slots written, user 3 has written; slot 1 is dirty. */
+    /** User 0 has read 70, user 1's print has failed, user 2 had three slots written, user 3 has made slot 1 dirty. */
     static RebornDrivers allHaveEnded() {
         RebornDrivers x = new RebornDrivers(20);
         x.write(0, 0, 70);

@@ -10,8 +10,9 @@ enum Work {
     }
 
     /**
-     * A new object of which user 0 has begun this work, which the driver has at the stage that is told, or, at -1, does not
-     * have yet. READING is of block 1, which is 10 on the device and in no slot, WRITING of 10 to block 1, PRINTING of 65.
+     * A new object of which user 0 has begun this work, which the driver has at the stage that is told, or, at -1, does
+     * not have yet. READING is of block 1, which is 10 on the device and in no slot, WRITING of 10 to block 1, PRINTING
+     * of 65. After stage 2 comes, as 3, the end.
      */
     RebornDrivers at(int stage, int h) {
         RebornDrivers x = new RebornDrivers(h);
