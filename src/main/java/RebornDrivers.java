@@ -417,17 +417,19 @@ public final class RebornDrivers {
             return users[0];
         }
 
-        /** There is always room: a user has one operation at a time. */
+        /** There is always room: a user has one operation at a time. It is looked at so that no index can go wrong. */
         private void join(int u) {
-            users[length] = u;
-            length++;
+            if (length < USERS) {
+                users[length] = u;
+                length++;
+            }
         }
 
         private void dropHead() {
-            length--;
-            for (int i = 0; i < length; i++) {
-                users[i] = users[i + 1];
+            for (int i = 1; i < length; i++) {
+                users[i - 1] = users[i];
             }
+            length = Math.max(length - 1, 0);
         }
     }
 

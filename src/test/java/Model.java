@@ -81,7 +81,23 @@ final class Model {
         this.h = h < 2 || h > 20 ? 5 : h;
     }
 
-    boolean begin(int u, Operation operation) {
+    boolean read(int u, int b) {
+        return begin(u, new Operation(Kind.READ, b, 0));
+    }
+
+    boolean write(int u, int b, int v) {
+        return begin(u, new Operation(Kind.WRITE, b, v));
+    }
+
+    boolean sync(int u) {
+        return begin(u, new Operation(Kind.SYNC, 0, 0));
+    }
+
+    boolean print(int u, int c) {
+        return begin(u, new Operation(Kind.PRINT, 0, c));
+    }
+
+    private boolean begin(int u, Operation operation) {
         boolean blockIsWrong = (operation.kind == Kind.READ || operation.kind == Kind.WRITE)
                 && (operation.block < 0 || operation.block > 15);
         boolean characterIsWrong = operation.kind == Kind.PRINT && (operation.value < 32 || operation.value > 126);
@@ -355,5 +371,9 @@ final class Model {
         }
         Request request = s == 0 ? fileRequest : terminalRequest;
         return request == null ? 0 : request.given ? 2 : 1;
+    }
+
+    int now() {
+        return now;
     }
 }

@@ -71,13 +71,10 @@ public final class ModelTest {
         int v = random.nextBoolean() ? random.nextInt() : random.nextInt(9);
         int c = near(32, 126);
         switch (random.nextInt(8)) {
-            case 0, 1 -> same(at + "read(" + u + ", " + b + ")", x.read(u, b),
-                    y.begin(u, new Model.Operation(Model.Kind.READ, b, 0)));
-            case 2, 3, 4 -> same(at + "write(" + u + ", " + b + ", " + v + ")", x.write(u, b, v),
-                    y.begin(u, new Model.Operation(Model.Kind.WRITE, b, v)));
-            case 5 -> same(at + "sync(" + u + ")", x.sync(u), y.begin(u, new Model.Operation(Model.Kind.SYNC, 0, 0)));
-            default -> same(at + "print(" + u + ", " + c + ")", x.print(u, c),
-                    y.begin(u, new Model.Operation(Model.Kind.PRINT, 0, c)));
+            case 0, 1 -> same(at + "read(" + u + ", " + b + ")", x.read(u, b), y.read(u, b));
+            case 2, 3, 4 -> same(at + "write(" + u + ", " + b + ", " + v + ")", x.write(u, b, v), y.write(u, b, v));
+            case 5 -> same(at + "sync(" + u + ")", x.sync(u), y.sync(u));
+            default -> same(at + "print(" + u + ", " + c + ")", x.print(u, c), y.print(u, c));
         }
     }
 
@@ -94,7 +91,7 @@ public final class ModelTest {
             case 5 -> due.is(at + "output(" + (b - 1) + ")", x.output(b - 1), y.output(b - 1));
             case 6 -> due.is(at + "driver(" + i + ", " + k + ")", x.driver(i, k), y.driver(i, k));
             case 7 -> due.is(at + "request(" + i + ")", x.request(i), y.request(i));
-            default -> due.is(at + "now()", x.now(), y.now);
+            default -> due.is(at + "now()", x.now(), y.now());
         }
     }
 
